@@ -78,6 +78,9 @@ public final class HidesTest {
         x.ticket(0, 40);
         Check.is(1, () -> x.cut(1, 0, 0, 0, 1, 0, false, 0));
         Check.is(11, () -> x.cellOf(0, 1, 0));
+        Check.is(1, () -> x.cut(0, 0, 0, 0, 0, 1, false, 0));
+        Check.is(10, () -> x.cellOf(0, 0, 1));
+        Check.fails(STATE, () -> x.fault(0, 0, 1, 0));
         Check.fails(STATE, () -> x.fault(0, 1, 0, 0));
         Check.fails(BAD, () -> x.fault(0, 1, 0, 4));
         Check.is(11, () -> x.cellOf(0, 1, 0));

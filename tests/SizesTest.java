@@ -59,6 +59,8 @@ public final class SizesTest {
         Check.is(14, () -> x.convert('m', 330, 'u'));
         Check.is(16, () -> x.convert('u', 15, 'a'));
         Check.is(0, () -> x.convert('a', 1, 'u'));
+        Check.is(1, () -> x.convert('a', 2, 'u'));
+        Check.is(2, () -> x.convert('u', 1, 'a'));
         // 2455 is as near to 2450 as to 2460.
         Check.is(2455, () -> x.length('u', 4));
         Check.is(245, () -> x.convert('u', 4, 'm'));
@@ -117,6 +119,9 @@ public final class SizesTest {
         Check.is(0, () -> x.setLasts(0, 15, 3));
         Check.is(0, () -> x.setLasts(0, 50, 4));
         Check.is(3, () -> x.freeLasts(0, 15));
+        Check.is(0, () -> x.setLasts(0, 42, 5));
+        Check.is(5, () -> x.setLasts(0, 42, 0));
+        Check.is(0, () -> x.freeLasts(0, 42));
         Check.is(4, () -> x.freeLasts(0, 50));
         Check.is(0, () -> x.freeLasts(1, 40));
         Check.is(0, () -> x.freeLasts(0, 41));

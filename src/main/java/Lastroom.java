@@ -22,7 +22,7 @@ public final class Lastroom {
     private static final int HIGHEST_SIZE = 50;
     private static final int LONGEST_WAIT = 240;
     private static final int FIRST_STAND = 30;
-    // A cell above this bears the ticket for which it was cut, one below its quality.
+    // A cell of this or more tells the ticket for which it was cut, a lesser one its quality.
     private static final int CUT = 10;
     // The number of a cause is below this, so that its kind can be told in the same number.
     private static final int CAUSE_NUMBERS = 64;
@@ -807,8 +807,11 @@ public final class Lastroom {
         for (char kind : CAUSES) {
             long common = commonMarks(kind);
             for (int number = 0; number < CAUSE_NUMBERS; number++) {
+                if ((common >>> number & 1) == 0) {
+                    continue;
+                }
                 int packed = countPacked(kind, number);
-                if ((common >>> number & 1) == 1 && packed < fewest) {
+                if (packed < fewest) {
                     fewest = packed;
                     best = kind * CAUSE_NUMBERS + number;
                 }
@@ -999,15 +1002,15 @@ public final class Lastroom {
         }
 
         int leastQuality(int column, int row, int across, int down) {
-            // The far edge is told by a difference: a sum could pass the greatest number.
-            if (column < 0 || row < 0 || column > columns - across || row > rows - down) {
-                return NONE;
-            }
             int least = BEST_QUALITY;
             for (int y = 0; y < down; y++) {
                 for (int x = 0; x < across; x++) {
+                    // A sum beyond the greatest int is negative, and so no cell either.
                     int cell = cellAt(column + x, row + y);
-                    least = Math.min(least, cell >= CUT ? NONE : cell);
+                    if (cell == NONE || cell >= CUT) {
+                        return NONE;
+                    }
+                    least = Math.min(least, cell);
                 }
             }
             return least;
