@@ -46,6 +46,14 @@ final class Check {
         System.out.println(problem);
     }
 
+    static int asked() {
+        return asked;
+    }
+
+    static int wrong() {
+        return wrong;
+    }
+
     static void end() {
         System.out.println(asked + " questions, " + wrong + " wrong");
         if (wrong != 0) {
@@ -62,7 +70,7 @@ final class Check {
 
     private static String place() {
         for (StackTraceElement frame : new Throwable().getStackTrace()) {
-            if (!frame.getClassName().equals("Check")) {
+            if (!frame.getClassName().equals("Check") && !frame.getClassName().equals("Edges")) {
                 return frame.getFileName() + ":" + frame.getLineNumber();
             }
         }
