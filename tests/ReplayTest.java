@@ -5,52 +5,76 @@ import java.util.Arrays;
 import java.util.List;
 
 /**
- * Long runs of calls, most of them apt and some wild. A call throws nothing that the document doesn't list for it, and a
- * method that throws changes nothing: the same run without the calls that threw gives the same answers.
+ * Long runs of calls, most of them apt and some wild. Each answer and each exception is the one of Plain, which says the
+ * document once more; a call throws nothing that the document doesn't list for it; and a method that throws changes
+ * nothing: the same run without the calls that threw gives the same answers.
  */
 public final class ReplayTest {
     private static final int RUNS = 1500;
-    private static final int CALLS = 500;
+    private static final int CALLS = 512;
+
+    /** Few things of each kind, so that many pairs get far. */
+    private static final int NARROW = 0;
+    /** One style with many pieces and seams. */
+    private static final int DEEP = 1;
+    /** As many things as there can be, and all sizes. */
+    private static final int WIDE = 2;
 
     /** Calls with what their numbers are, each ahead of it how often it comes. */
     private static final String[] KINDS = {
-        "1 length system size", "1 convert system size system", "1 model girthOfModel gradeOfModel", "1 girth model size",
+        "1 length system any", "2 convert system any system", "1 model girthOfModel gradeOfModel", "1 girth model size",
         "2 setLasts model size pairs", "1 freeLasts model size", "1 missingLasts model size", "1 misfit foot foot model size",
         "1 bestModel foot foot", "1 bestSize foot foot model", "1 style model construction material material",
         "1 piece style width width grade quality bool", "1 seam style skill minutes after", "1 pieceCells style piece size bool",
-        "1 shortest style", "1 bonds style", "1 hide material columns rows", "1 fault hide column row quality",
+        "1 shortest style", "1 bonds style", "1 hide material columns rows", "4 fault hide column row quality",
         "1 cellOf hide column row", "20 cut ticket one piece hide column row bool operator", "2 firstPlace ticket piece hide",
-        "1 waste hide", "1 cutBy operator", "2 setSkill operator skill bool", "1 setAbsent operator seldom", "1 ticket style size",
-        "4 pass wait", "20 sew ticket one seam operator", "2 room ticket", "1 bottleneck", "1 setStand material stand",
+        "1 waste hide", "1 cutBy operator", "2 setSkill operator skill bool", "2 setAbsent operator seldom", "1 ticket style size",
+        "4 pass wait", "20 sew ticket one seam operator", "2 room ticket", "4 bottleneck", "1 setStand material stand",
         "8 lastOn ticket", "2 open wait", "12 sole ticket lot bool", "8 takeOff ticket", "8 pack ticket least least",
         "1 test ticket what", "2 comeBack ticket", "1 cause", "1 causeOf", "1 hideOf ticket one piece", "1 sewerOf ticket one seam",
         "1 checksum", "1 packedShare", "1 meanWaste", "1 isSound",
     };
 
     /** How each run begins, so that pairs get far. */
-    private static final String[] SETUP = {
-        "2 model girthOfModel gradeOfModel", "16 setLasts model size pairs", "4 style model construction material material",
-        "2 piece style width width grade quality bool", "2 seam style skill minutes after", "4 hide material columns rows",
-        "3 fault hide column row quality", "24 setSkill operator skill bool", "5 ticket style size", "3 open wait",
+    private static final String[][] SETUP = {
+        {
+            "2 model girthOfModel gradeOfModel", "16 setLasts model size pairs", "4 style model construction material material",
+            "2 piece style width width grade quality bool", "2 seam style skill minutes after", "4 hide material columns rows",
+            "3 fault hide column row quality", "24 setSkill operator skill bool", "5 ticket style size", "3 open wait",
+        },
+        {
+            "1 model girthOfModel gradeOfModel", "8 setLasts model size pairs", "3 style model construction material material",
+            "7 piece style width width grade quality bool", "9 seam style skill minutes after", "6 hide material columns rows",
+            "5 fault hide column row quality", "40 setSkill operator skill bool", "3 ticket style size", "2 open wait",
+        },
+        {
+            "6 model girthOfModel gradeOfModel", "20 setLasts model size pairs", "12 style model construction material material",
+            "12 piece style width width grade quality bool", "12 seam style skill minutes after", "7 hide material columns rows",
+            "9 fault hide column row quality", "24 setSkill operator skill bool", "17 ticket style size", "21 open wait",
+        },
     };
 
     private static long seed = 1;
     private static int returned = 0;
+    private static int breadth = NARROW;
+    private static Plain plain;
 
     public static void main(String[] args) throws IllegalAccessException {
         for (int run = 0; run < RUNS; run++) {
             replay(run);
         }
-        Check.is(true, () -> returned > RUNS);
+        Check.is(true, () -> returned > RUNS / 2);
         System.out.println(returned + " pairs came back");
         Check.end();
     }
 
     private static void replay(int run) throws IllegalAccessException {
+        breadth = run % 4 == 3 ? WIDE : run % 4 == 2 ? DEEP : NARROW;
+        plain = new Plain();
         Lastroom whole = new Lastroom();
         List<Object[]> apt = new ArrayList<>();
         int calls = 0;
-        for (String words : spread(SETUP)) {
+        for (String words : spread(SETUP[breadth])) {
             ask(whole, words.split(" "), apt);
             calls++;
         }
@@ -72,7 +96,7 @@ public final class ReplayTest {
 
     /** The call that may bring a pair into the next room. */
     private static String onward(Lastroom whole) throws IllegalAccessException {
-        int ticket = next(6);
+        int ticket = next(breadth == DEEP ? 3 : 6);
         Object room = answer(whole, named("room"), new Object[] {ticket});
         switch (room instanceof Character ? (Character) room : ' ') {
             case 'c':
@@ -112,6 +136,7 @@ public final class ReplayTest {
             place(whole, given);
         }
         Object answer = answer(whole, method, given);
+        agree(method, given, answer);
         if (answer instanceof Throwable) {
             listed(method, given, (Throwable) answer);
             return;
@@ -119,6 +144,22 @@ public final class ReplayTest {
         returned += words[0].equals("comeBack") ? 1 : 0;
         sound(method, answer);
         apt.add(new Object[] {method, given, answer});
+    }
+
+    private static void agree(Method method, Object[] given, Object answer) throws IllegalAccessException {
+        Object due = answer(plain, plainly(method), given);
+        boolean isAlike = due instanceof Throwable ? due.getClass() == answer.getClass() : due.equals(answer);
+        if (!isAlike) {
+            Check.fails(method.getName() + Arrays.toString(given) + " answered " + answer + ", due is " + due);
+        }
+    }
+
+    private static Method plainly(Method method) {
+        try {
+            return Plain.class.getMethod(method.getName(), method.getParameterTypes());
+        } catch (NoSuchMethodException e) {
+            throw new IllegalStateException(e);
+        }
     }
 
     /** Moves a cut to where the piece lies in the hide, if it does. */
@@ -148,7 +189,7 @@ public final class ReplayTest {
         }
     }
 
-    private static Object answer(Lastroom x, Method method, Object[] given) throws IllegalAccessException {
+    private static Object answer(Object x, Method method, Object[] given) throws IllegalAccessException {
         try {
             return method.invoke(x, given);
         } catch (InvocationTargetException e) {
@@ -189,9 +230,73 @@ public final class ReplayTest {
         if (word.startsWith("=")) {
             return Integer.parseInt(word.substring(1));
         }
+        Integer broad = breadth == DEEP ? deep(word) : breadth == WIDE ? wide(word) : null;
+        return broad == null ? narrow(word) : broad;
+    }
+
+    private static Integer deep(String word) {
+        switch (word) {
+            case "model":
+            case "style":
+                return next(9) / 8;
+            case "piece":
+                return next(6);
+            case "seam":
+                return next(9);
+            case "hide":
+                return next(6);
+            case "columns":
+            case "rows":
+                return 8 + next(3);
+            case "after":
+                return next(3) == 0 ? 0 : next(1 << next(6));
+            case "ticket":
+                return next(3);
+            default:
+                return null;
+        }
+    }
+
+    private static Integer wide(String word) {
+        switch (word) {
+            case "size":
+                return next(2) == 0 ? 15 + next(36) : 39 + next(2);
+            case "foot":
+                return 990 + next(3530);
+            case "model":
+                return next(next(2) == 0 ? 2 : 6);
+            case "material":
+                return next(5);
+            case "width":
+                return 1 + next(4);
+            case "style":
+            case "hide":
+                return next(7);
+            case "piece":
+            case "seam":
+                return next(3);
+            case "columns":
+                return 1 + next(12);
+            case "rows":
+                return 1 + next(10);
+            case "ticket":
+                return next(next(2) == 0 ? 6 : 16);
+            case "stand":
+            case "wait":
+                return 1 + next(next(6) == 0 ? 240 : 40);
+            case "lot":
+                return next(2) == 0 ? -1 : next(20);
+            default:
+                return null;
+        }
+    }
+
+    private static int narrow(String word) {
         switch (word) {
             case "system":
                 return "fuam".charAt(next(4));
+            case "any":
+                return next(3) == 0 ? 148 + next(185) : next(18) + next(2) * 35;
             case "size":
                 return 38 + next(5);
             case "girthOfModel":
